@@ -1,1 +1,0 @@
-public final class PromisesTest { public static void main(String[] a) {} }

@@ -29,8 +29,22 @@ public final class ModelTest {
         restless = below(4);
         nearX = 128;
         nearY = 128;
-        for (call = 0; call < CALLS; call++) {
+        call = 0;
+        if (number % 300 == 7) {
+            comeNearTheBound();
+        }
+        for (; call < CALLS; call++) {
             step();
+        }
+    }
+
+    private void comeNearTheBound() {
+        for (; call < 49; call++) {
+            int x = wander(128);
+            due("hold(" + x + ", 128, 200)", stick.hold(x, 128, 200), model.hold(x, 128, 200));
+        }
+        for (int slot = 0; slot < 2; slot++) {
+            due("save(" + slot + ")", stick.save(slot), model.save(slot));
         }
     }
 

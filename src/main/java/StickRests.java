@@ -400,7 +400,7 @@ public final class StickRests {
         }
 
         private int farthestOff(int x, int y) {
-            return Math.max(Math.abs(x - restX / 16), Math.abs(y - restY / 16));
+            return Math.max(Math.abs(x - restPlaceX()), Math.abs(y - restPlaceY()));
         }
 
         private int stillWith(int x, int y) {

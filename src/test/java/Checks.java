@@ -2,12 +2,44 @@
 final class Checks {
     private int asked = 0;
     private int wrong = 0;
+    private String about = "";
+    private boolean silent = false;
+
+    /** Names what the next answers are about: it is printed ahead of each wrong one. */
+    void about(String what) {
+        about = what + ": ";
+    }
+
+    void beSilent() {
+        silent = true;
+    }
+
+    int asked() {
+        return asked;
+    }
+
+    int wrong() {
+        return wrong;
+    }
 
     void due(String call, long got, long want) {
         asked++;
         if (got != want) {
-            wrong++;
-            System.out.println(call + " answered " + got + ", due is " + want);
+            fail(call + " answered " + got + ", due is " + want);
+        }
+    }
+
+    void dueText(String call, String got, String want) {
+        asked++;
+        if (!got.equals(want)) {
+            fail(call + " answered " + got + ", due is " + want);
+        }
+    }
+
+    void fail(String what) {
+        wrong++;
+        if (!silent) {
+            System.out.println(about + what);
         }
     }
 
@@ -17,23 +49,5 @@ final class Checks {
         if (wrong != 0 || asked == 0) {
             System.exit(1);
         }
-    }
-
-    /** Puts a text on the pad, eight characters a call at most. Returns the last answer. */
-    static int write(StickRests stick, String text) {
-        int answer = 0;
-        for (int start = 0; start < text.length(); start += 8) {
-            answer = stick.put(number(text.substring(start, Math.min(text.length(), start + 8))));
-        }
-        return answer;
-    }
-
-    /** The number by which put() is given one to eight characters. */
-    static long number(String characters) {
-        long number = 0;
-        for (int i = 0; i < characters.length(); i++) {
-            number = number << 8 | characters.charAt(i);
-        }
-        return number;
     }
 }

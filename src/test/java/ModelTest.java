@@ -217,7 +217,7 @@ public final class ModelTest {
 
     private void write(String text) {
         for (int start = 0; start < text.length(); start += 8) {
-            long number = Checks.number(text.substring(start, Math.min(text.length(), start + 8)));
+            long number = Sticks.number(text.substring(start, Math.min(text.length(), start + 8)));
             due("put(" + number + ")", stick.put(number), model.put(number));
         }
     }

@@ -60,8 +60,10 @@ public final class AnswersTest {
                 "if (axis != 0 && axis != 1) { return BAD_VALUE; } return axis == 0");
         doc.says("BAD_VALUE if what is out of range.", AnswersTest::ofOutOfRange)
             .brokenBy("default: return BAD_VALUE; } } int number", "default: return NO_SUCH; } } int number")
-            .brokenBy("default: return BAD_VALUE; } } int number", "case 4: return latest; default: return BAD_VALUE; } } int number")
-            .brokenBy("default: return BAD_VALUE; } } int number", "case -1: return rest; default: return BAD_VALUE; } } int number");
+            .brokenBy("default: return BAD_VALUE; } } int number",
+                "case 4: return latest; default: return BAD_VALUE; } } int number")
+            .brokenBy("default: return BAD_VALUE; } } int number",
+                "case -1: return rest; default: return BAD_VALUE; } } int number");
     }
 
     private static void ofAxes() {
@@ -161,10 +163,12 @@ public final class AnswersTest {
             .brokenBy("byRank[unlike] = told; unlike++;", "unlike++; byRank[DIRECTIONS - unlike] = told;")
             .brokenBy("if (samplesIn[told] == 0 && unlike < DIRECTIONS)", "if (told != latest && unlike < DIRECTIONS)");
         doc.says("(the direction of 0, 0, too).", AnswersTest::directionOfNothing)
-            .brokenBy("void note(int signX, int signY) {", "void note(int signX, int signY) { if (signX == 0 && signY == 0) { return; }");
+            .brokenBy("void note(int signX, int signY) {",
+                "void note(int signX, int signY) { if (signX == 0 && signY == 0) { return; }");
         doc.says("- `rank`: 0 for the first one", AnswersTest::directionRank)
             .brokenBy("return stick.directions.about(rank, what);", "return stick.directions.about(rank - 1, what);")
-            .brokenBy("return stick.directions.about(rank, what);", "return stick.directions.about(stick.directions.unlike - 1 - rank, what);");
+            .brokenBy("return stick.directions.about(rank, what);",
+                "return stick.directions.about(stick.directions.unlike - 1 - rank, what);");
         doc.says("- `what`: 0 its sign of x and 1,", AnswersTest::directionSignOfX)
             .brokenBy("case 0: return told / 3;", "case 0: return told % 3;")
             .brokenBy("case 0: return told / 3;", "case 0: return told / 3 - 1;");
@@ -182,7 +186,8 @@ public final class AnswersTest {
             .brokenBy("run = other.run;", "");
         doc.says("Returns the number; NO_SUCH if there are not so many;", AnswersTest::directionNotSoMany)
             .brokenBy("if (rank < 0 || rank >= unlike || rank >= DIRECTIONS) {", "if (rank < 0 || rank >= DIRECTIONS) {")
-            .brokenBy("if (rank < 0 || rank >= unlike || rank >= DIRECTIONS) {", "if (rank >= unlike || rank >= DIRECTIONS) {")
+            .brokenBy("if (rank < 0 || rank >= unlike || rank >= DIRECTIONS) {",
+                "if (rank >= unlike || rank >= DIRECTIONS) {")
             .brokenBy("if (rank < 0 || rank >= unlike || rank >= DIRECTIONS) {",
                 "if (rank < 0 || rank >= unlike || rank >= DIRECTIONS - 1) {")
             .brokenBy("if (rank < 0 || rank >= unlike || rank >= DIRECTIONS) { return NO_SUCH;",
@@ -577,7 +582,8 @@ public final class AnswersTest {
             .brokenBy("for (int taken = 0; taken <= MOST_LEARNING", "for (int taken = 1; taken <= MOST_LEARNING")
             .brokenBy("if (trial.isOffByNothing(x, y)) { return taken; } trial.take(x, y);",
                 "trial.take(x, y); if (trial.isOffByNothing(x, y)) { return taken; }")
-            .brokenBy("return taken; } trial.take(x, y);", "return taken; } trial.take(x, y); if (taken == 0) { trial.latestX = -9; }");
+            .brokenBy("return taken; } trial.take(x, y);",
+                "return taken; } trial.take(x, y); if (taken == 0) { trial.latestX = -9; }");
         doc.says("the rest is off by nothing: x and y are rest / 16.", AnswersTest::learnedInBothAxes)
             .brokenBy("return x == restPlaceX() && y == restPlaceY();", "return x == restPlaceX() || y == restPlaceY();")
             .brokenBy("return x == restPlaceX() && y == restPlaceY();", "return x == restPlaceX();")
@@ -586,12 +592,15 @@ public final class AnswersTest {
         doc.says("Returns how many; BAD_VALUE if x or y is out of range;", AnswersTest::learnedInOutOfRange)
             .brokenBy("public int learnedIn(int x, int y) { if (!isSample(x, y)) { return BAD_VALUE; }",
                 "public int learnedIn(int x, int y) {")
-            .brokenBy("public int learnedIn(int x, int y) { if (!isSample(x, y))", "public int learnedIn(int x, int y) { if (!isSample(x, 0))")
-            .brokenBy("public int learnedIn(int x, int y) { if (!isSample(x, y))", "public int learnedIn(int x, int y) { if (!isSample(0, y))");
+            .brokenBy("public int learnedIn(int x, int y) { if (!isSample(x, y))",
+                "public int learnedIn(int x, int y) { if (!isSample(x, 0))")
+            .brokenBy("public int learnedIn(int x, int y) { if (!isSample(x, y))",
+                "public int learnedIn(int x, int y) { if (!isSample(0, y))");
         // The most that any stick needs is 71 samples and 20 more while a press shakes: a bound of 91 or more is all alike.
         doc.says("NONE if it is not within 500.", AnswersTest::learnedInNever)
             .brokenBy("MOST_LEARNING = 500", "MOST_LEARNING = 90")
-            .brokenBy("trial.take(x, y); } return NONE; } public int edge", "trial.take(x, y); } return 0; } public int edge");
+            .brokenBy("trial.take(x, y); } return NONE; } public int edge",
+                "trial.take(x, y); } return 0; } public int edge");
     }
 
     private static void learnedInMany() {
@@ -684,18 +693,23 @@ public final class AnswersTest {
             .brokenBy("(axis == 1 ? step * n : 0)", "step * n");
         doc.says("(one by which the stick would drift tells nothing).", AnswersTest::edgeAndDrift)
             .brokenBy("|| wouldDrift(x, y)) {", ") {")
-            .brokenBy("stick.tellingAt(x, y) != packed(0, 0)) {", "(stick.tellingAt(x, y) != packed(0, 0) || stick.wouldDrift(x, y))) {");
+            .brokenBy("stick.tellingAt(x, y) != packed(0, 0)) {",
+                "(stick.tellingAt(x, y) != packed(0, 0) || stick.wouldDrift(x, y))) {");
         doc.says("- `axis`: 0 or 1", AnswersTest::edgeAxes)
             .brokenBy("(axis == 0 ? step * n : 0)", "(axis == 1 ? step * n : 0)")
-            .brokenBy("public int edge(int axis, int up) { if (axis != 0 && axis != 1)", "public int edge(int axis, int up) { if (axis != 0)")
-            .brokenBy("public int edge(int axis, int up) { if (axis != 0 && axis != 1)", "public int edge(int axis, int up) { if (axis != 1)");
+            .brokenBy("public int edge(int axis, int up) { if (axis != 0 && axis != 1)",
+                "public int edge(int axis, int up) { if (axis != 0)")
+            .brokenBy("public int edge(int axis, int up) { if (axis != 0 && axis != 1)",
+                "public int edge(int axis, int up) { if (axis != 1)");
         doc.says("- `up`: 1 to higher numbers, 0 to lower ones", AnswersTest::edgeSides)
             .brokenBy("int step = up == 1 ? 1 : -1;", "int step = up == 1 ? -1 : 1;")
             .brokenBy("int step = up == 1 ? 1 : -1;", "int step = 1;")
             .brokenBy("int step = up == 1 ? 1 : -1;", "int step = -1;");
         doc.says("Returns the number; NO_SUCH if there is no such axis;", AnswersTest::edgeNoSuchAxis)
-            .brokenBy("public int edge(int axis, int up) { if (axis != 0 && axis != 1)", "public int edge(int axis, int up) { if (axis < 0)")
-            .brokenBy("public int edge(int axis, int up) { if (axis != 0 && axis != 1)", "public int edge(int axis, int up) { if (axis > 1)");
+            .brokenBy("public int edge(int axis, int up) { if (axis != 0 && axis != 1)",
+                "public int edge(int axis, int up) { if (axis < 0)")
+            .brokenBy("public int edge(int axis, int up) { if (axis != 0 && axis != 1)",
+                "public int edge(int axis, int up) { if (axis > 1)");
         doc.says("BAD_VALUE if up is neither;", AnswersTest::edgeUpIsNeither)
             .brokenBy("if (up != 0 && up != 1) {", "if (up < 0) {")
             .brokenBy("if (up != 0 && up != 1) {", "if (up > 1) {");
@@ -832,8 +846,10 @@ public final class AnswersTest {
             .brokenBy("if (trial.wouldDrift(x, y)) { return many; }",
                 "if (trial.wouldDrift(x, y)) { return many; } if (trial.shaking > 0) { trial.still = 0; }");
         doc.says("Returns how many; BAD_VALUE if x or y is out of range;", AnswersTest::driftsInOutOfRange)
-            .brokenBy("public int driftsIn(int x, int y) { if (!isSample(x, y))", "public int driftsIn(int x, int y) { if (!isSample(x, 0))")
-            .brokenBy("public int driftsIn(int x, int y) { if (!isSample(x, y))", "public int driftsIn(int x, int y) { if (!isSample(0, y))")
+            .brokenBy("public int driftsIn(int x, int y) { if (!isSample(x, y))",
+                "public int driftsIn(int x, int y) { if (!isSample(x, 0))")
+            .brokenBy("public int driftsIn(int x, int y) { if (!isSample(x, y))",
+                "public int driftsIn(int x, int y) { if (!isSample(0, y))")
             .brokenBy("public int driftsIn(int x, int y) { if (!isSample(x, y)) { return BAD_VALUE; }",
                 "public int driftsIn(int x, int y) { if (!isSample(x, y)) { return NONE; }");
         // No stick needs more than 61 samples (STILL is 60 at most): a bound of 61 or more is all alike.

@@ -268,8 +268,10 @@ public final class ChangesTest {
     private static void hold(Sentences doc) {
         doc.part("Promise 4: hold");
         doc.says("Samples come that are all the same.", ChangesTest::holdIsManySamples)
-            .brokenBy("for (int taken = 0; taken < many; taken++) { stick", "for (int taken = 1; taken < many; taken++) { stick")
-            .brokenBy("for (int taken = 0; taken < many; taken++) { stick", "for (int taken = 0; taken <= many; taken++) { stick")
+            .brokenBy("for (int taken = 0; taken < many; taken++) { stick",
+                "for (int taken = 1; taken < many; taken++) { stick")
+            .brokenBy("for (int taken = 0; taken < many; taken++) { stick",
+                "for (int taken = 0; taken <= many; taken++) { stick")
             .brokenBy("return takeAlike(x, y, many);", "return takeAlike(y, x, many);");
         doc.says("This is a change.", ChangesTest::holdIsAChange)
             .brokenBy("history.keep(stick); for", "for")

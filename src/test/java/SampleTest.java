@@ -89,17 +89,20 @@ public final class SampleTest {
             .brokenBy("if (tellsSomething()) { letGo++; }", "if (tellX != 0) { letGo++; }")
             .brokenBy("if (tellsSomething()) { letGo++; }", "if (tellX > 0 || tellY != 0) { letGo++; }")
             .brokenBy("if (tellsSomething()) { letGo++; }", "if (tellsSomething() && shaking == 0) { letGo++; }")
-            .brokenBy("} else if (drifts) {", "} else if (telling == packed(0, 0) && !drifts && tellsSomething()) { letGo++; } else if (drifts) {");
+            .brokenBy("} else if (drifts) {",
+                "} else if (telling == packed(0, 0) && !drifts && tellsSomething()) { letGo++; } else if (drifts) {");
         doc.says("If no press shakes, then:", SampleTest::learnsNothingWhileShaking)
             .brokenBy("if (shaking > 0) { shakenInZone++; return; }", "if (shaking > 0) { shakenInZone++; }")
             .brokenBy("if (shaking > 0) { shakenInZone++; return; }", "if (shaking > 1) { shakenInZone++; return; }")
             .brokenBy("shakenInZone++; return;", "shakenInZone++; fitZone(farthestOff(x, y)); return;")
-            .brokenBy("if (shaking > 0) { shakenInZone++; return; }", "if (shaking > 0 || down > 0) { shakenInZone++; return; }");
+            .brokenBy("if (shaking > 0) { shakenInZone++; return; }",
+                "if (shaking > 0 || down > 0) { shakenInZone++; return; }");
         doc.says("with d being the greater one of dx and dy, without signs:", SampleTest::greaterOneFitsTheZone)
             .brokenBy("fitZone(farthestOff(x, y));", "fitZone(Math.abs(x - restPlaceX()));")
             .brokenBy("fitZone(farthestOff(x, y));", "fitZone(Math.abs(y - restPlaceY()));")
             .brokenBy("fitZone(farthestOff(x, y));", "fitZone(Math.max(x - restPlaceX(), y - restPlaceY()));")
-            .brokenBy("fitZone(farthestOff(x, y));", "fitZone(Math.min(Math.abs(x - restPlaceX()), Math.abs(y - restPlaceY())));");
+            .brokenBy("fitZone(farthestOff(x, y));",
+                "fitZone(Math.min(Math.abs(x - restPlaceX()), Math.abs(y - restPlaceY())));");
         doc.says("if 2 * d is more than the zone, the zone is 1 wider,", SampleTest::widens)
             .brokenBy("if (2 * off > zone) {", "if (2 * off >= zone) {")
             .brokenBy("if (2 * off > zone) {", "if (2 * off > zone + 1) {")
@@ -117,11 +120,14 @@ public final class SampleTest {
             .brokenBy("Math.max(zone - 1, settings[ZONE])", "Math.max(zone - 1, settings[ZONE] + 1)")
             .brokenBy("Math.max(zone - 1, settings[ZONE])", "Math.max(zone - 1, settings[ZONE] - 1)");
         doc.says("and then each axis of the rest is (16 * x - rest) / SLOW more, likewise with y.", SampleTest::learns)
-            .brokenBy("restX += quotient(16 * x - restX, settings[SLOW]);", "restX += 16 * quotient(x - restX / 16, settings[SLOW]);")
+            .brokenBy("restX += quotient(16 * x - restX, settings[SLOW]);",
+                "restX += 16 * quotient(x - restX / 16, settings[SLOW]);")
             .brokenBy("restX += quotient(16 * x - restX, settings[SLOW]);", "")
             .brokenBy("restY += quotient(16 * y - restY, settings[SLOW]);", "")
-            .brokenBy("restY += quotient(16 * y - restY, settings[SLOW]);", "restY += quotient(16 * x - restY, settings[SLOW]);")
-            .brokenBy("restX += quotient(16 * x - restX, settings[SLOW]);", "restX += quotient(16 * x - restX, settings[SLOW] + 1);")
+            .brokenBy("restY += quotient(16 * y - restY, settings[SLOW]);",
+                "restY += quotient(16 * x - restY, settings[SLOW]);")
+            .brokenBy("restX += quotient(16 * x - restX, settings[SLOW]);",
+                "restX += quotient(16 * x - restX, settings[SLOW] + 1);")
             .brokenBy("fitZone(farthestOff(x, y)); restX += quotient(16 * x - restX, settings[SLOW]); "
                     + "restY += quotient(16 * y - restY, settings[SLOW]);",
                 "restX += quotient(16 * x - restX, settings[SLOW]); "
@@ -283,11 +289,13 @@ public final class SampleTest {
     // ---- 3: out of the zone
 
     private static void telling(Sentences doc) {
-        doc.says("3. If it is not in the zone: each axis tells 0 if it is off by the zone or less,", SampleTest::nearAxisTellsNothing)
+        doc.says("3. If it is not in the zone: each axis tells 0 if it is off by the zone or less,",
+                SampleTest::nearAxisTellsNothing)
             .brokenBy("if (beyond <= 0) { return 0; }", "if (beyond < -1) { return 0; }")
             .brokenBy("if (beyond <= 0) { return 0; }", "if (beyond <= 1) { return 0; }")
             .brokenBy("int beyond = Math.abs(off) - zone;", "int beyond = Math.abs(off) - settings[ZONE];");
-        doc.says("otherwise (how much more than the zone it is off, without its sign) * 100 / (REACH less the zone),", SampleTest::tells)
+        doc.says("otherwise (how much more than the zone it is off, without its sign) * 100 / (REACH less the zone),",
+                SampleTest::tells)
             .brokenBy("int beyond = Math.abs(off) - zone;", "int beyond = Math.abs(off);")
             .brokenBy("settings[REACH] - zone)", "settings[REACH])")
             .brokenBy("settings[REACH] - zone)", "settings[REACH] - settings[ZONE])")
@@ -380,7 +388,8 @@ public final class SampleTest {
             .brokenBy(">= settings[STILL]", ">= settings[STILL] - 1")
             .brokenBy(">= settings[STILL]", "== settings[STILL]")
             .brokenBy("stillWith(x, y) >= settings[STILL]", "still >= settings[STILL]");
-        doc.says("and the greater one of dx and dy, without signs, is at most the zone and 8, together,", SampleTest::driftsNearTheZone)
+        doc.says("and the greater one of dx and dy, without signs, is at most the zone and 8, together,",
+                SampleTest::driftsNearTheZone)
             .brokenBy("off <= zone + DRIFT_BEYOND_ZONE", "off < zone + DRIFT_BEYOND_ZONE")
             .brokenBy("off <= zone + DRIFT_BEYOND_ZONE", "off <= zone + DRIFT_BEYOND_ZONE + 1")
             .brokenBy("off <= zone + DRIFT_BEYOND_ZONE", "off <= settings[ZONE] + DRIFT_BEYOND_ZONE")
@@ -501,7 +510,8 @@ public final class SampleTest {
             .brokenBy("samples++;", "if (!drifts) { samples++; }")
             .brokenBy("samples++;", "if (!rests) { samples++; }");
         doc.says("What it tells has a direction: the sign of x (1, 0 or -1) and the sign of y.", SampleTest::hasDirection)
-            .brokenBy("Integer.compare(tellX, 0), Integer.compare(tellY, 0)", "Integer.compare(tellY, 0), Integer.compare(tellX, 0)")
+            .brokenBy("Integer.compare(tellX, 0), Integer.compare(tellY, 0)",
+                "Integer.compare(tellY, 0), Integer.compare(tellX, 0)")
             .brokenBy("Integer.compare(tellX, 0)", "Integer.compare(tellX, 1)")
             .brokenBy("Integer.compare(tellY, 0)", "Integer.compare(tellY, -1)")
             .brokenBy("Integer.compare(tellY, 0)", "Math.abs(Integer.compare(tellY, 0))");

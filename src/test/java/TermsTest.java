@@ -41,7 +41,8 @@ public final class TermsTest {
                 TermsTest::errorOrder)
             .brokenBy("public int of(int axis, int what) {",
                 "public int of(int axis, int what) { if (what < 0 || what > 3) { return BAD_VALUE; }")
-            .brokenBy("if (rank < 0 || rank >= unlike", "if (what < 0 || what > 3) { return BAD_VALUE; } if (rank < 0 || rank >= unlike")
+            .brokenBy("if (rank < 0 || rank >= unlike",
+                "if (what < 0 || what > 3) { return BAD_VALUE; } if (rank < 0 || rank >= unlike")
             .brokenBy("public int edge(int axis, int up) {",
                 "public int edge(int axis, int up) { if (up != 0 && up != 1) { return BAD_VALUE; }")
             .brokenBy("int refusalOfSamples(int x, int y, int many) {",
@@ -51,7 +52,8 @@ public final class TermsTest {
             .brokenBy("int many = charactersIn(characters);",
                 "int many = charactersIn(characters); if (length == PAD_SIZE) { return TOO_MANY; }");
         doc.says("A call that returns an error changes nothing.", TermsTest::errorsChangeNothing)
-            .brokenBy("public int set(int setting, int value) {", "public int set(int setting, int value) { history.keep(stick);")
+            .brokenBy("public int set(int setting, int value) {",
+                "public int set(int setting, int value) { history.keep(stick);")
             .brokenBy("if (many < 1 || many > MOST_HELD) {", "if (many < 1 || many > MOST_HELD) { stick.still = 0;")
             .brokenBy("if (refusal != ALLOWED) { return refusal; } history.keep(stick); for",
                 "history.keep(stick); if (refusal != ALLOWED) { return refusal; } for")
@@ -73,10 +75,12 @@ public final class TermsTest {
                 "public int of(int axis, int what) { if (axis != 0 && what > 1 && stick.samples == 0) { return NONE; }")
             .brokenBy("default: return BAD_VALUE; } } int number",
                 "default: return samples == 0 ? NONE : BAD_VALUE; } } int number")
-            .brokenBy("public int learnedIn(int x, int y) {", "public int learnedIn(int x, int y) { if (y > 200) { return NONE; }")
+            .brokenBy("public int learnedIn(int x, int y) {",
+                "public int learnedIn(int x, int y) { if (y > 200) { return NONE; }")
             .brokenBy("public int edge(int axis, int up) {",
                 "public int edge(int axis, int up) { if (stick.restX == 16 * AXIS_END && up != 0) { return NONE; }")
-            .brokenBy("public int driftsIn(int x, int y) {", "public int driftsIn(int x, int y) { if (x < 0) { return NONE; }");
+            .brokenBy("public int driftsIn(int x, int y) {",
+                "public int driftsIn(int x, int y) { if (x < 0) { return NONE; }");
         doc.says("Everything is numbered from 0.", TermsTest::numberedFrom0)
             .brokenBy("if (axis != 0 && axis != 1) { return NO_SUCH; } return axis == 0",
                 "if (axis != 1 && axis != 2) { return NO_SUCH; } return axis == 1")
@@ -419,13 +423,16 @@ public final class TermsTest {
             .brokenBy("return restX / 16;", "return 128;")
             .brokenBy("return restY / 16;", "return 128;");
         doc.says("The zone is ZONE at first,", TermsTest::zoneAtFirst)
-            .brokenBy("zone = settings[ZONE]; } void becomeLike", "zone = settings[ZONE] + settings[WIDE]; } void becomeLike");
+            .brokenBy("zone = settings[ZONE]; } void becomeLike",
+                "zone = settings[ZONE] + settings[WIDE]; } void becomeLike");
         doc.says("and whenever ZONE or WIDE is set (also to the value that it has).", TermsTest::zoneAnew)
             .brokenBy("if (setting == ZONE || setting == WIDE) {", "if (setting == ZONE) {")
             .brokenBy("if (setting == ZONE || setting == WIDE) {", "if (setting == WIDE) {")
-            .brokenBy("if (setting == ZONE || setting == WIDE) {", "if ((setting == ZONE || setting == WIDE) && value != previous) {")
+            .brokenBy("if (setting == ZONE || setting == WIDE) {",
+                "if ((setting == ZONE || setting == WIDE) && value != previous) {")
             .brokenBy("if (setting == ZONE || setting == WIDE) {", "if (setting != SLOW) {");
-        doc.says("The stick is in the zone if neither dx nor dy, without their signs, is more than the zone.", TermsTest::inTheZone)
+        doc.says("The stick is in the zone if neither dx nor dy, without their signs, is more than the zone.",
+                TermsTest::inTheZone)
             .brokenBy("boolean rests = farthestOff(x, y) <= zone;", "boolean rests = farthestOff(x, y) < zone;")
             .brokenBy("boolean rests = farthestOff(x, y) <= zone;", "boolean rests = farthestOff(x, y) <= zone + 1;")
             .brokenBy("Math.max(Math.abs(x - restPlaceX()), Math.abs(y - restPlaceY()))", "Math.abs(x - restPlaceX())")
@@ -635,7 +642,8 @@ public final class TermsTest {
             .brokenBy("history.keep(stick); return stick.toMiddle();", "return stick.toMiddle();");
         doc.says("Ahead of the calls `of`, `direction`, `count` the interface says: ---- what there is.", TermsTest::asking)
             .brokenBy("public int of(int axis, int what) {", "public int of(int axis, int what) { history.keep(stick);")
-            .brokenBy("public int direction(int rank, int what) {", "public int direction(int rank, int what) { stick.still++;")
+            .brokenBy("public int direction(int rank, int what) {",
+                "public int direction(int rank, int what) { stick.still++;")
             .brokenBy("public int count(int what) {", "public int count(int what) { pad.length = 0;");
         doc.says("Ahead of the calls `wouldTell`, `learnedIn`, `edge`, `driftsIn` the interface says: "
                 + "---- what if; nothing changes", TermsTest::whatIfChangesNothing)
@@ -651,11 +659,13 @@ public final class TermsTest {
                 "if (stick.refusalOfSamples(x, y, 1) == ALLOWED && stick.tellingAt(x, y)")
             .brokenBy("taken <= MOST_LEARNING;", "taken <= MOST_LEARNING && stick.samples + taken <= MOST_SAMPLES;")
             .brokenBy("many <= MOST_DRIFTING;", "many <= MOST_DRIFTING && stick.samples + many <= MOST_SAMPLES;");
-        doc.says("Ahead of the calls `put`, `wipe`, `fault`, `carryOut` the interface says: ---- texts.", TermsTest::textCalls)
+        doc.says("Ahead of the calls `put`, `wipe`, `fault`, `carryOut` the interface says: ---- texts.",
+                TermsTest::textCalls)
             .brokenBy("return pad.append(characters);", "history.keep(stick); return pad.append(characters);")
             .brokenBy("return pad.empty();", "history.keep(stick); return pad.empty();")
             .brokenBy("return pad.firstFault();", "history.keep(stick); return pad.firstFault();");
-        doc.says("Ahead of the calls `undo`, `save`, `restore` the interface says: ---- undo, saving.", TermsTest::undoAndSaving)
+        doc.says("Ahead of the calls `undo`, `save`, `restore` the interface says: ---- undo, saving.",
+                TermsTest::undoAndSaving)
             .brokenBy("public int save(int slot) {", "public int save(int slot) { history.keep(stick);")
             .brokenBy("history.keep(stick); stick.becomeLike(saved);", "stick.becomeLike(saved);");
     }

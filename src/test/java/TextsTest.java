@@ -106,14 +106,17 @@ public final class TextsTest {
         doc.says("\"b\": press(), \"u\": letUp() of a button.", TextsTest::orderOfButtons)
             .brokenBy("boolean goesDown = pad.kind == 'b';", "boolean goesDown = pad.kind == 'u';")
             .brokenBy("stick.pushDown(button); } else", "stick.down |= 1 << button; } else")
-            .brokenBy("stick.refusalOfPress(button) : stick.refusalOfLetUp(button)", "stick.refusalOfPress(button) : ALLOWED")
-            .brokenBy("stick.refusalOfPress(button) : stick.refusalOfLetUp(button)", "ALLOWED : stick.refusalOfLetUp(button)");
+            .brokenBy("stick.refusalOfPress(button) : stick.refusalOfLetUp(button)",
+                "stick.refusalOfPress(button) : ALLOWED")
+            .brokenBy("stick.refusalOfPress(button) : stick.refusalOfLetUp(button)",
+                "ALLOWED : stick.refusalOfLetUp(button)");
         doc.says("A digit is 0 to 9,", TextsTest::digits)
             .brokenBy("digit < '0' || digit > '9'", "digit < '1' || digit > '9'")
             .brokenBy("digit < '0' || digit > '9'", "digit < '0' || digit > '8'")
             .brokenBy("digit < '0' || digit > '9'", "digit < '0' || digit > ':'")
             .brokenBy("digit < '0' || digit > '9'", "digit < '/' || digit > '9'")
-            .brokenBy("first = readDigit(); return first >= 0;", "first = readDigit(); return first >= 0 && first < BUTTONS;");
+            .brokenBy("first = readDigit(); return first >= 0;",
+                "first = readDigit(); return first >= 0 && first < BUTTONS;");
         doc.says("a number 0 to 999,", TextsTest::numbers)
             .brokenBy("digits < 3;", "digits < 2;")
             .brokenBy("digits < 3;", "digits < 4;")
@@ -204,12 +207,14 @@ public final class TextsTest {
             .brokenBy("void goToStart() { place = 0; }", "void goToStart() { }");
         doc.says("(also of a digit by which a number would be above 999);", TextsTest::digitTooMany)
             .brokenBy("digits < 3;", "digits < 9;")
-            .brokenBy("number = 10 * number + digit;", "number = 10 * number + digit; if (digits == 2 && next() >= '0' && next() <= '9') "
+            .brokenBy("number = 10 * number + digit;",
+                "number = 10 * number + digit; if (digits == 2 && next() >= '0' && next() <= '9') "
                 + "{ place = place - 3; return NONE; }");
         doc.says("if there is none and the text ends too early (also if it is empty), it is the length of the text.",
                 TextsTest::endsTooEarly)
             .brokenBy("int firstFault() {", "int firstFault() { if (length == 0) { return NONE; }")
-            .brokenBy("if (!readOrder()) { return place; }", "if (!readOrder()) { return place == length ? length - 1 : place; }")
+            .brokenBy("if (!readOrder()) { return place; }",
+                "if (!readOrder()) { return place == length ? length - 1 : place; }")
             .brokenBy("if (!readOrder()) { return place; }", "if (!readOrder()) { return place == length ? NONE : place; }");
     }
 
@@ -275,7 +280,8 @@ public final class TextsTest {
             .brokenBy("length++; } return length;", "length++; } return length - many;");
         doc.says("BAD_VALUE if there is no character,", TextsTest::putNothing)
             .brokenBy("if (many == 0) {", "if (many < 0) {")
-            .brokenBy("int append(long characters) {", "int append(long characters) { if (characters == 0) { return length; }");
+            .brokenBy("int append(long characters) {",
+                "int append(long characters) { if (characters == 0) { return length; }");
         doc.says("a code is not 33 to 126,", TextsTest::putCodes)
             .brokenBy("code < 33 || code > 126", "code < 32 || code > 126")
             .brokenBy("code < 33 || code > 126", "code < 34 || code > 126")
@@ -435,7 +441,8 @@ public final class TextsTest {
         doc.part("Promise 17: fault");
         doc.says("Returns the fault of the pad, NONE if there is none.", TextsTest::faultOfThePad)
             .brokenBy("if (place == length) { return NONE; }", "if (place == length) { return place; }")
-            .brokenBy("return pad.firstFault();", "int at = pad.firstFault(); pad.length = at < 0 ? pad.length : at; return at;");
+            .brokenBy("return pad.firstFault();",
+                "int at = pad.firstFault(); pad.length = at < 0 ? pad.length : at; return at;");
     }
 
     private static void faultOfThePad() {

@@ -60,7 +60,8 @@ public final class UndoTest {
             .brokenBy("history.keep(stick); stick.becomeLike(saved);", "stick.becomeLike(saved);")
             .brokenBy("history.keep(stick); return stick.changeSetting",
                 "if (stick.settings[setting] != value) { history.keep(stick); } return stick.changeSetting")
-            .brokenBy("public int sample(int x, int y) {", "public int sample(int x, int y) { if (!isSample(x, y)) { history.keep(stick); }")
+            .brokenBy("public int sample(int x, int y) {",
+                "public int sample(int x, int y) { if (!isSample(x, y)) { history.keep(stick); }")
             .brokenBy("public int save(int slot) {", "public int save(int slot) { history.keep(stick);")
             .brokenBy("return pad.empty();", "history.keep(stick); return pad.empty();");
         doc.says("when one more is recorded, the oldest one is dropped.", UndoTest::undoDropsTheOldest)
@@ -268,22 +269,28 @@ public final class UndoTest {
     private static void save(Sentences doc) {
         doc.part("Promise 20: save");
         brokenByEachCopy(doc.says("Saves everything except the pad, the history and the slots in a slot,", UndoTest::savesAll))
-            .brokenBy("history.keep(stick); stick.becomeLike(saved);", "history.keep(stick); pad.empty(); stick.becomeLike(saved);")
-            .brokenBy("history.keep(stick); stick.becomeLike(saved);", "history.size = 0; history.keep(stick); stick.becomeLike(saved);");
+            .brokenBy("history.keep(stick); stick.becomeLike(saved);",
+                "history.keep(stick); pad.empty(); stick.becomeLike(saved);")
+            .brokenBy("history.keep(stick); stick.becomeLike(saved);",
+                "history.size = 0; history.keep(stick); stick.becomeLike(saved);");
         doc.says("and overwrites what was saved there.", UndoTest::saveOverwrites)
             .brokenBy("saved.becomeLike(stick);", "if (saved.samples == 0) { saved.becomeLike(stick); }")
             .brokenBy("slots[slot] = saved;", "slots[0] = saved; slots[1] = saved;");
         doc.says("- `slot`: 0 or 1", UndoTest::saveSlots)
-            .brokenBy("public int save(int slot) { if (slot < 0 || slot >= slots.length)", "public int save(int slot) { if (slot != 0)")
-            .brokenBy("public int save(int slot) { if (slot < 0 || slot >= slots.length)", "public int save(int slot) { if (slot != 1)");
+            .brokenBy("public int save(int slot) { if (slot < 0 || slot >= slots.length)",
+                "public int save(int slot) { if (slot != 0)")
+            .brokenBy("public int save(int slot) { if (slot < 0 || slot >= slots.length)",
+                "public int save(int slot) { if (slot != 1)");
         doc.says("Returns how many samples there have been;", UndoTest::saveReturnsSamples)
             .brokenBy("saved.becomeLike(stick); return stick.samples;", "saved.becomeLike(stick); return slot;")
-            .brokenBy("saved.becomeLike(stick); return stick.samples;", "saved.becomeLike(stick); return stick.tellingSamples;")
+            .brokenBy("saved.becomeLike(stick); return stick.samples;",
+                "saved.becomeLike(stick); return stick.tellingSamples;")
             .brokenBy("saved.becomeLike(stick); return stick.samples;",
                 "int had = saved.samples; saved.becomeLike(stick); return had;");
         doc.says("BAD_VALUE if there is no such slot.", UndoTest::saveNoSuchSlot)
             .brokenBy("SLOTS = 2", "SLOTS = 3")
-            .brokenBy("public int save(int slot) { if (slot < 0 ||", "public int save(int slot) { if (slot < -1) { return NO_SUCH; } if (slot < 0 ||")
+            .brokenBy("public int save(int slot) { if (slot < 0 ||",
+                "public int save(int slot) { if (slot < -1) { return NO_SUCH; } if (slot < 0 ||")
             .brokenBy("public int save(int slot) { if (slot < 0 || slot >= slots.length) { return BAD_VALUE;",
                 "public int save(int slot) { if (slot < 0 || slot >= slots.length) { return NO_SUCH;");
     }
@@ -356,7 +363,8 @@ public final class UndoTest {
     private static void restore(Sentences doc) {
         doc.part("Promise 21: restore");
         doc.says("Restores what was saved last in a slot, which keeps it.", UndoTest::restoreKeepsTheSlot)
-            .brokenBy("stick.becomeLike(saved); return stick.samples;", "stick.becomeLike(saved); slots[slot] = null; return stick.samples;")
+            .brokenBy("stick.becomeLike(saved); return stick.samples;",
+                "stick.becomeLike(saved); slots[slot] = null; return stick.samples;")
             .brokenBy("stick.becomeLike(saved); return stick.samples;", "return stick.samples;")
             .brokenBy("history.keep(stick); stick.becomeLike(saved);",
                 "history.keep(stick); trial.becomeLike(stick); stick.becomeLike(saved); saved.becomeLike(trial);")
@@ -366,15 +374,18 @@ public final class UndoTest {
             .brokenBy("history.keep(stick); stick.becomeLike(saved);",
                 "if (stick.samples != saved.samples) { history.keep(stick); } stick.becomeLike(saved);");
         doc.says("- `slot`: 0 or 1", UndoTest::restoreSlots)
-            .brokenBy("public int restore(int slot) { if (slot < 0 || slot >= slots.length)", "public int restore(int slot) { if (slot != 0)")
-            .brokenBy("public int restore(int slot) { if (slot < 0 || slot >= slots.length)", "public int restore(int slot) { if (slot != 1)");
+            .brokenBy("public int restore(int slot) { if (slot < 0 || slot >= slots.length)",
+                "public int restore(int slot) { if (slot != 0)")
+            .brokenBy("public int restore(int slot) { if (slot < 0 || slot >= slots.length)",
+                "public int restore(int slot) { if (slot != 1)");
         doc.says("Returns how many samples there have been then;", UndoTest::restoreReturnsSamples)
             .brokenBy("stick.becomeLike(saved); return stick.samples;",
                 "int had = stick.samples; stick.becomeLike(saved); return had;")
             .brokenBy("stick.becomeLike(saved); return stick.samples;", "stick.becomeLike(saved); return slot;");
         doc.says("BAD_VALUE if there is no such slot;", UndoTest::restoreNoSuchSlot)
             .brokenBy("SLOTS = 2", "SLOTS = 3")
-            .brokenBy("public int restore(int slot) { if (slot < 0 ||", "public int restore(int slot) { if (slot == -1) { return NOT_POSSIBLE; } if (slot < 0 ||")
+            .brokenBy("public int restore(int slot) { if (slot < 0 ||",
+                "public int restore(int slot) { if (slot == -1) { return NOT_POSSIBLE; } if (slot < 0 ||")
             .brokenBy("public int restore(int slot) { if (slot < 0 || slot >= slots.length) { return BAD_VALUE;",
                 "public int restore(int slot) { if (slot < 0 || slot >= slots.length) { return NO_SUCH;");
         doc.says("NOT_POSSIBLE if nothing was saved in it.", UndoTest::restoreNothing)
